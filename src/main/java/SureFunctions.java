@@ -701,20 +701,28 @@ public final class SureFunctions {
 
         private boolean isCoveredWhenSplit(int function, int slot, int openRows, int level) {
             int type = slotType(function, slot);
-            boolean triedUnwanted = false;
+            int unnamed = constructorThatNoneNames(slot, openRows, type);
+            if (unnamed != NONE) {
+                // The clauses that match it don't look at this slot: what they cover here they cover for all others.
+                filled[slot] = unnamed;
+                return isCovered(function, level + 1);
+            }
             for (int c = 0; c < constructors.howMany(); c++) {
-                boolean wantedByOne = isWanted(slot, openRows, c);
-                // Constructors that no open clause names are all alike to the clauses: one stands for all of them.
-                if (constructors.type(c) != type || (!wantedByOne && triedUnwanted)) {
-                    continue;
-                }
-                triedUnwanted |= !wantedByOne;
                 filled[slot] = c;
-                if (!isCovered(function, level + 1)) {
+                if (constructors.type(c) == type && !isCovered(function, level + 1)) {
                     return false;
                 }
             }
             return true;
+        }
+
+        private int constructorThatNoneNames(int slot, int openRows, int type) {
+            for (int c = 0; c < constructors.howMany(); c++) {
+                if (constructors.type(c) == type && !isNamed(slot, openRows, c)) {
+                    return c;
+                }
+            }
+            return NONE;
         }
 
         /** MATCHES, DIFFERS, or the first slot that must be filled to tell. */
@@ -734,7 +742,7 @@ public final class SureFunctions {
             return found;
         }
 
-        private boolean isWanted(int slot, int openRows, int constructor) {
+        private boolean isNamed(int slot, int openRows, int constructor) {
             for (int row = 0; row < CLAUSES_OF_ONE_MOST; row++) {
                 if ((openRows >> row & 1) == 1 && wanted[row * SLOTS + slot] == constructor) {
                     return true;
@@ -862,7 +870,7 @@ public final class SureFunctions {
 
         /** Composition is associative, so every graph is one of calls or comes from one more call behind another. */
         private void addCompositions(int manyOfCalls) {
-            for (int first = 0; first < manyGraphs && !tooMany; first++) {
+            for (int first = 0; first < GRAPHS_MOST && first < manyGraphs && !tooMany; first++) {
                 for (int second = 0; second < manyOfCalls; second++) {
                     if (to(graph[first]) == from(graph[second])) {
                         addGraph(compose(graph[first], graph[second]));

@@ -308,33 +308,33 @@ public final class RunTest {
         checks.due("promise 12: 600 terms again", 40, () -> x.run(2, zero, 0, 0));
     }
 
-    /** Counts 231 calls down, each inside of five constructors of the one before: as deep as a run may go. */
+    /** Six functions count 36 calls down each, most calls inside of five constructors: about as deep as a run can go. */
     private static void deepRun() {
         SureFunctions x = numbers();
-        x.function(0, 0, 0, 0);
-        x.function(0, 0, -1, 0);
-        x.function(0, 0, -1, 0);
+        for (int f = 0; f < 6; f++) {
+            x.function(0, 0, 0, 0);
+        }
         int a = x.variable(0);
         int b = x.variable(1);
         int r = x.variable(2);
         int zero = x.make(0, 0, 0, 0);
         int nextA = x.make(1, a, 0, 0);
         int nextB = x.make(1, b, 0, 0);
-        x.clause(0, a, nextB, r, wrapped(x, x.call(0, a, b, r), 5));
-        x.clause(0, nextA, zero, r, wrapped(x, x.call(0, a, r, r), 5));
-        x.clause(0, zero, zero, r, zero);
-        x.clause(1, zero, 0, 0, zero);
-        x.clause(1, nextA, 0, 0, wrapped(x, x.call(1, a, 0, 0), 2));
-        int twice = x.call(1, a, 0, 0);
-        x.clause(2, a, 0, 0, x.call(0, x.call(1, twice, 0, 0), twice, twice));
-        checks.due("promise 8: it ends", 0, x::check);
+        for (int f = 0; f < 6; f++) {
+            x.clause(f, a, nextB, r, wrapped(x, x.call(f, a, b, r), 5));
+            x.clause(f, nextA, zero, r, f < 5 ? x.call(f, a, r, r) : wrapped(x, x.call(f, a, r, r), 5));
+            x.clause(f, zero, zero, r, f < 5 ? wrapped(x, x.call(f + 1, r, r, r), 2) : zero);
+        }
         int five = wrapped(x, zero, 5);
-        checks.due("promise 12: as deep as may be", 0, () -> x.run(2, five, 0, 0));
-        checks.due("promise 14: as deep as may be", 200, () -> x.count(0));
-        checks.index("promise 13: as deep as may be", () -> x.answer(0));
         int one = wrapped(x, zero, 1);
-        checks.due("promise 12: less deep, but too great", 0, () -> x.run(2, one, 0, 0));
-        checks.due("promise 14: less deep, but too great", 25, () -> x.count(0));
+        checks.due("promise 8: it ends", 0, x::check);
+        checks.due("promise 12: about as deep as can be", 0, () -> x.run(0, five, five, five));
+        checks.due("promise 14: about as deep as can be", 200, () -> x.count(0));
+        checks.index("promise 13: about as deep as can be", () -> x.answer(0));
+        checks.due("promise 12: less deep, but too great", 0, () -> x.run(0, one, one, one));
+        checks.due("promise 14: less deep, but too great", 24, () -> x.count(0));
+        checks.due("promise 12: an answer", 11, () -> x.run(5, zero, x.make(1, one, 0, 0), zero));
+        checks.due("promise 13: an answer", answerOf(x, 11), "11111111110");
     }
 
     private static int wrapped(SureFunctions x, int term, int times) {
