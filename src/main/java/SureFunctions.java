@@ -708,8 +708,11 @@ public final class SureFunctions {
                 return isCovered(function, level + 1);
             }
             for (int c = 0; c < constructors.howMany(); c++) {
+                if (constructors.type(c) != type) {
+                    continue;
+                }
                 filled[slot] = c;
-                if (constructors.type(c) == type && !isCovered(function, level + 1)) {
+                if (!isCovered(function, level + 1)) {
                     return false;
                 }
             }
@@ -912,8 +915,8 @@ public final class SureFunctions {
         }
 
         /**
-         * A column has its bits three places apart and a row is three bits wide, so their product has exactly the bits
-         * that are in both.
+         * A column has its bits three places apart and a row is three bits wide, so nothing is carried in their product:
+         * it has the bit from i to k exactly if the column has i and the row has k.
          */
         private static int compose(int first, int second) {
             int arcs = 0;

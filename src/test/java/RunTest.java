@@ -12,6 +12,7 @@ public final class RunTest {
         noArguments();
         latestRun();
         stepLimit();
+        stepLimitOfOneArgument();
         sizeLimit();
         builtLimit();
         deepRun();
@@ -241,6 +242,29 @@ public final class RunTest {
         checks.index("promise 13: ended at the 201st", () -> x.answer(0));
         checks.due("promise 12: five steps", 1, () -> x.run(2, 0, 0, 0));
         checks.due("promise 14: five steps", 5, () -> x.count(0));
+    }
+
+    /** Each function calls the one before six times on its own answers, so that a call left out would not be missed. */
+    private static void stepLimitOfOneArgument() {
+        SureFunctions x = numbers();
+        int v = x.variable(0);
+        x.function(0, 0, -1, 0);
+        x.clause(0, v, 0, 0, v);
+        for (int f = 1; f < 4; f++) {
+            x.function(0, 0, -1, 0);
+            int body = v;
+            for (int i = 0; i < 6; i++) {
+                body = x.call(f - 1, body, 0, 0);
+            }
+            x.clause(f, v, 0, 0, body);
+        }
+        int zero = x.make(0, 0, 0, 0);
+        checks.due("promise 8: it ends", 0, x::check);
+        checks.due("promise 12: 43 steps", 1, () -> x.run(2, zero, 0, 0));
+        checks.due("promise 14: 43 steps", 43, () -> x.count(0));
+        checks.due("promise 12: 259 steps", 0, () -> x.run(3, zero, 0, 0));
+        checks.due("promise 14: 259 steps", 200, () -> x.count(0));
+        checks.index("promise 13: 259 steps", () -> x.answer(0));
     }
 
     /** Pairs of handed values: sixty constructors are an answer, sixty-one are none. */
