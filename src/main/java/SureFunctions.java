@@ -915,7 +915,7 @@ public final class SureFunctions {
         }
 
         /**
-         * A column has its bits three places apart and a row is three bits wide, so nothing is carried in their product:
+         * A column has its bits three places apart and a row is three bits wide, so their product carries nothing:
          * it has the bit from i to k exactly if the column has i and the row has k.
          */
         private static int compose(int first, int second) {

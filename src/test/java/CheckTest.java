@@ -1,369 +1,408 @@
-/** Promises 8 to 10: check, graphs and arc. */
+/** Promise 8 and what a program is checked for, but for its ending: that it is inhabited, typed and covered. */
 public final class CheckTest {
+    private static final int[][] ORDERS = {{0, 1, 2}, {0, 2, 1}, {1, 0, 2}, {1, 2, 0}, {2, 0, 1}, {2, 1, 0}};
+
     private static final Checks checks = new Checks();
 
     public static void main(String[] args) {
-        inhabited();
-        typed();
+        nothingDeclared();
+        inhabitedByConstructors();
+        inhabitedForFunctions();
+        inhabitedInAnyOrder();
+        inhabitedWithoutTypesInNoUse();
+        typedPatterns();
+        typedBody();
+        typedParts();
+        typedArguments();
         typedVariables();
-        covered();
-        coveredInside();
+        typedEverywhere();
         coveredWithoutArguments();
+        coveredByEachConstructor();
+        coveredRowByRow();
+        coveredInside();
+        coveredByTheOnlyConstructor();
+        coveredForEachFunction();
+        coveredByEight();
+        coveredInTwelvePlaces();
         firstWrong();
-        uncheckedAgain();
-        ending();
-        strictOnlyTogether();
-        exchanged();
-        mutual();
-        arcs();
-        arcsOfConstants();
-        graphLimit(2, 200, 0);
-        graphLimit(3, 201, 4);
         checks.end();
     }
 
-    private static void inhabited() {
+    /** "(also one in which nothing is declared: 0)" */
+    private static void nothingDeclared() {
+        Edge edge = new Edge(checks, SureFunctions::new);
+        edge.allowed("promise 8: nothing declared", 0, SureFunctions::check);
         SureFunctions x = new SureFunctions();
-        checks.due("promise 8: nothing declared", 0, x::check);
-        checks.due("promise 14: nothing declared is checked", 1, () -> x.count(5));
-        x.constructor(1, 2, -1, -1);
-        checks.due("promise 8: a part's type without a value", 1, x::check);
-        x.constructor(2, 1, -1, -1);
-        checks.due("promise 8: a circle of types", 1, x::check);
-        x.constructor(2, 0, -1, -1);
-        checks.due("promise 8: a circle and an empty type", 1, x::check);
-        x.constructor(0, -1, -1, -1);
-        checks.due("promise 8: all types have values", 0, x::check);
-        SureFunctions y = new SureFunctions();
-        y.function(2, -1, -1, -1);
-        checks.due("promise 8: an answer's type without a value", 1, y::check);
-        y.constructor(2, -1, -1, -1);
-        checks.due("promise 8: inhabited, and not covered", 3, y::check);
-        y.function(2, 2, 2, 1);
-        checks.due("promise 8: an argument's type without a value", 1, y::check);
-    }
-
-    private static void typed() {
-        SureFunctions x = new SureFunctions();
-        x.constructor(0, -1, 0, 0);
-        x.constructor(1, 0, -1, 0);
-        x.function(1, 0, -1, 0);
-        int v = x.variable(0);
-        int zero = x.make(0, 0, 0, 0);
-        int box = x.make(1, zero, 0, 0);
-        int boxOfBox = x.make(1, box, 0, 0);
-        x.clause(0, v, 0, 0, x.make(1, v, 0, 0));
-        checks.due("promise 8: typed", 0, x::check);
-        SureFunctions y = typedWith(v, zero, box, 1);
-        checks.due("promise 8: the body is of the wrong type", 2, y::check);
-        y = typedWith(v, zero, box, 2);
-        checks.due("promise 8: the pattern is of the wrong type", 2, y::check);
-        y = typedWith(v, zero, box, 3);
-        checks.due("promise 8: a part in the body is of the wrong type", 2, y::check);
-        y = typedWith(v, zero, box, 4);
-        checks.due("promise 8: a call's argument is of the wrong type", 2, y::check);
-        y = typedWith(v, zero, box, 5);
-        checks.due("promise 8: a call is of the wrong type", 2, y::check);
-        y = typedWith(v, zero, box, 6);
-        checks.due("promise 8: a part in the pattern is of the wrong type", 2, y::check);
-        checks.due("promise 11: a box of a box is no value", x.isValue(boxOfBox, 1), false);
-    }
-
-    /** Function 0 goes from type 0 to 1, function 1 from 1 to 0; what differs is the clause that is wrong. */
-    private static SureFunctions typedWith(int v, int zero, int box, int which) {
-        SureFunctions x = new SureFunctions();
-        x.constructor(0, -1, 0, 0);
-        x.constructor(1, 0, -1, 0);
-        x.function(1, 0, -1, 0);
         x.variable(0);
+        checks.due("promise 8: nothing but a term", 0, x::check);
+    }
+
+    /** "every type that some constructor makes or has as a part .. has a value" */
+    private static void inhabitedByConstructors() {
+        for (int n = 0; n < 3; n++) {
+            int type = n;
+            Edge made = new Edge(checks, () -> {
+                SureFunctions x = new SureFunctions();
+                x.constructor(type, type, -1, -1);
+                return x;
+            });
+            made.allowed("promise 8: type " + n + " needs itself", 1, SureFunctions::check);
+            made.allowed("promise 8: type " + n + " begins somewhere", 0, x -> {
+                x.constructor(type, -1, -1, -1);
+                return x.check();
+            });
+        }
+        for (int place = 0; place < 3; place++) {
+            int[] parts = {0, 0, 0};
+            parts[place] = 1;
+            SureFunctions x = new SureFunctions();
+            x.constructor(0, -1, -1, -1);
+            x.constructor(0, parts[0], parts[1], parts[2]);
+            checks.due("promise 8: part " + place + " is of a type without a value", 1, x::check);
+            x.constructor(1, -1, -1, -1);
+            checks.due("promise 8: part " + place + " is of a type with one", 0, x::check);
+        }
+    }
+
+    /** "or some function has as answer or argument" */
+    private static void inhabitedForFunctions() {
+        for (int place = 0; place < 4; place++) {
+            int[] types = {0, 0, 0, 0};
+            types[place] = 2;
+            SureFunctions x = new SureFunctions();
+            x.constructor(0, -1, -1, -1);
+            x.function(types[0], types[1], types[2], types[3]);
+            checks.due("promise 8: type " + place + " of a function has no value", 1, x::check);
+            x.constructor(2, -1, -1, -1);
+            checks.due("promise 8: type " + place + " of a function has one, but there is no clause", 3, x::check);
+        }
+    }
+
+    /** Values of one type may need those of the next, in whatever order the constructors came. */
+    private static void inhabitedInAnyOrder() {
+        for (int[] order : ORDERS) {
+            SureFunctions x = new SureFunctions();
+            for (int step : order) {
+                x.constructor(step, step < 2 ? step + 1 : -1, -1, -1);
+            }
+            checks.due("promise 8: types that need one another", 0, x::check);
+            SureFunctions y = new SureFunctions();
+            for (int step : order) {
+                y.constructor(step, (step + 1) % 3, -1, -1);
+            }
+            checks.due("promise 8: types that need one another in a circle", 1, y::check);
+        }
+    }
+
+    private static void inhabitedWithoutTypesInNoUse() {
+        for (int n = 0; n < 3; n++) {
+            SureFunctions x = new SureFunctions();
+            x.constructor(n, -1, 0, 0);
+            checks.due("promise 8: types 0 .. 2 but " + n + " are in no use", 0, x::check);
+        }
+    }
+
+    /** Constants 0 and 1 of types 0 and 1 (terms 0 and 1), pairs 2 (term 2) of both in type 2, variables 3 to 5. */
+    private static SureFunctions typed() {
+        SureFunctions x = new SureFunctions();
+        x.constructor(0, -1, -1, -1);
+        x.constructor(1, -1, -1, -1);
+        x.constructor(2, 0, 1, -1);
         x.make(0, 0, 0, 0);
-        x.make(1, zero, 0, 0);
-        x.function(0, 1, -1, 0);
-        x.clause(0, v, 0, 0, box);
-        x.clause(1, v, 0, 0, zero);
-        if (which == 1) {
-            x.clause(0, v, 0, 0, zero);
-        } else if (which == 2) {
-            x.clause(0, box, 0, 0, box);
-        } else if (which == 3) {
-            x.clause(0, v, 0, 0, x.make(1, box, 0, 0));
-        } else if (which == 4) {
-            x.clause(1, v, 0, 0, x.call(1, zero, 0, 0));
-        } else if (which == 5) {
-            x.clause(1, v, 0, 0, x.call(0, zero, 0, 0));
-        } else {
-            x.clause(1, x.make(1, x.make(1, v, 0, 0), 0, 0), 0, 0, zero);
-        }
+        x.make(1, 0, 0, 0);
+        x.make(2, 0, 1, 0);
+        x.variable(0);
+        x.variable(1);
+        x.variable(2);
         return x;
     }
 
+    private static void clauseOf(String what, int want, SureFunctions x, int... c) {
+        x.clause(c[0], c[1], c[2], c[3], c[4]);
+        checks.due(what, want, x::check);
+    }
+
+    /** "in every clause, each pattern is of its argument's type" */
+    private static void typedPatterns() {
+        for (int place = 0; place < 3; place++) {
+            for (int pattern = 0; pattern < 4; pattern++) {
+                SureFunctions x = typed();
+                x.function(0, 0, 1, 2);
+                x.clause(0, 3, 4, 5, 0);
+                int[] p = {3, 4, 5};
+                p[place] = pattern == 3 ? x.variable(7) : pattern;
+                int want = pattern == 3 || pattern == place ? 0 : 2;
+                clauseOf("promise 8: pattern " + pattern + " in place " + place, want, x, 0, p[0], p[1], p[2], 0);
+            }
+        }
+    }
+
+    /** "and the body of the answer's" */
+    private static void typedBody() {
+        for (int body = 0; body < 3; body++) {
+            for (int answer = 0; answer < 3; answer++) {
+                SureFunctions x = typed();
+                x.function(answer, -1, -1, -1);
+                clauseOf("promise 8: body " + body + " for answer " + answer, body == answer ? 0 : 2,
+                        x, 0, 0, 0, 0, body);
+            }
+        }
+    }
+
+    /** "a constructor's term is of the type that it makes, with parts of their types", in patterns and in bodies. */
+    private static void typedParts() {
+        int[][] parts = {{0, 1}, {1, 1}, {0, 0}, {1, 0}, {2, 1}, {0, 2}};
+        for (int n = 0; n < parts.length; n++) {
+            SureFunctions x = typed();
+            x.function(2, -1, -1, -1);
+            int body = x.make(2, parts[n][0], parts[n][1], 0);
+            clauseOf("promise 8: parts " + n + " in a body", n == 0 ? 0 : 2, x, 0, 0, 0, 0, body);
+        }
+        for (int n = 0; n < 4; n++) {
+            SureFunctions x = typed();
+            x.function(0, 2, -1, -1);
+            x.clause(0, 3, 0, 0, 0);
+            int pattern = x.make(2, parts[n][0], parts[n][1], 0);
+            clauseOf("promise 8: parts " + n + " in a pattern", n == 0 ? 0 : 2, x, 0, pattern, 0, 0, 0);
+        }
+    }
+
+    /** "a call of the answer's, with arguments of their types" */
+    private static void typedArguments() {
+        for (int place = 0; place < 3; place++) {
+            for (int argument = 0; argument < 3; argument++) {
+                SureFunctions x = typed();
+                x.function(1, -1, -1, -1);
+                x.function(1, 0, 1, 2);
+                x.clause(1, 3, 4, 5, 1);
+                int[] a = {0, 1, 2};
+                a[place] = argument;
+                int call = x.call(1, a[0], a[1], a[2]);
+                clauseOf("promise 8: argument " + argument + " in place " + place, argument == place ? 0 : 2,
+                        x, 0, 0, 0, 0, call);
+            }
+        }
+        for (int answer = 0; answer < 3; answer++) {
+            SureFunctions x = typed();
+            x.function(1, -1, -1, -1);
+            x.function(answer, -1, -1, -1);
+            x.clause(1, 0, 0, 0, answer);
+            clauseOf("promise 8: a call with answer " + answer, answer == 1 ? 0 : 2, x, 0, 0, 0, 0, x.call(1, 0, 0, 0));
+        }
+    }
+
+    /** "a variable has one type in the whole clause, the one that its place in the patterns has" */
     private static void typedVariables() {
-        SureFunctions x = new SureFunctions();
-        x.constructor(0, -1, 0, 0);
-        x.constructor(1, 0, 1, -1);
-        x.constructor(1, -1, 0, 0);
-        x.function(1, 1, -1, 0);
-        int v = x.variable(0);
-        int w = x.variable(1);
-        int vw = x.make(1, v, w, 0);
-        x.clause(0, vw, 0, 0, w);
-        x.clause(0, x.make(2, 0, 0, 0), 0, 0, x.make(2, 0, 0, 0));
-        checks.due("promise 8: a variable has its part's type", 0, x::check);
-        x.clause(0, vw, 0, 0, v);
-        checks.due("promise 8: a variable has another part's type", 2, x::check);
-    }
-
-    private static SureFunctions numbers() {
-        SureFunctions x = new SureFunctions();
-        x.constructor(0, -1, 0, 0);
-        x.constructor(0, 0, -1, 0);
-        return x;
-    }
-
-    private static void covered() {
-        SureFunctions x = numbers();
-        x.function(0, 0, 0, -1);
-        int v = x.variable(0);
-        int w = x.variable(1);
-        int zero = x.make(0, 0, 0, 0);
-        int next = x.make(1, v, 0, 0);
-        checks.due("promise 8: no clause", 3, x::check);
-        x.clause(0, zero, w, 0, zero);
-        checks.due("promise 8: one constructor of two", 3, x::check);
-        checks.due("promise 9: it didn't come to the graphs", 0, x::graphs);
-        x.clause(0, w, zero, 0, zero);
-        checks.due("promise 8: one row is left", 3, x::check);
-        x.clause(0, next, x.make(1, w, 0, 0), 0, zero);
-        checks.due("promise 8: all rows", 0, x::check);
-    }
-
-    private static void coveredInside() {
-        SureFunctions x = new SureFunctions();
-        x.constructor(0, -1, 0, 0);
-        x.constructor(0, -1, 0, 0);
-        x.constructor(1, 0, 0, 0);
-        x.function(0, 1, 1, 1);
-        int[] v = new int[8];
-        for (int i = 0; i < 8; i++) {
-            v[i] = x.variable(i);
+        for (int body = 3; body <= 5; body++) {
+            for (int answer = 0; answer < 3; answer++) {
+                SureFunctions x = typed();
+                x.function(answer, 0, 1, 2);
+                clauseOf("promise 8: the variable of place " + (body - 3) + " for answer " + answer,
+                        body - 3 == answer ? 0 : 2, x, 0, 3, 4, 5, body);
+            }
         }
-        int no = x.make(0, 0, 0, 0);
-        int yes = x.make(1, 0, 0, 0);
-        x.clause(0, x.make(2, no, v[0], v[1]), v[2], v[3], no);
-        x.clause(0, v[0], x.make(2, v[1], no, v[2]), v[3], no);
-        x.clause(0, v[0], v[1], x.make(2, v[2], v[3], no), no);
-        x.clause(0, x.make(2, yes, v[0], yes), x.make(2, v[1], yes, v[2]), v[3], no);
-        checks.due("promise 8: one part of one argument is left", 3, x::check);
-        x.clause(0, x.make(2, v[4], v[5], no), v[0], v[1], yes);
-        checks.due("promise 8: all parts of all arguments", 0, x::check);
+        for (int body = 3; body <= 4; body++) {
+            SureFunctions x = typed();
+            x.function(1, 2, -1, -1);
+            clauseOf("promise 8: the variable of part " + (body - 3), body == 4 ? 0 : 2,
+                    x, 0, x.make(2, 3, 4, 0), 0, 0, body);
+        }
+        SureFunctions x = typed();
+        x.function(2, 0, 1, -1);
+        clauseOf("promise 8: variables in their places inside of the body", 0, x, 0, 3, 4, 0, x.make(2, 3, 4, 0));
+        clauseOf("promise 8: the types of another clause are not those of this", 2, x, 0, 4, 3, 0, x.make(2, 3, 4, 0));
+        SureFunctions y = typed();
+        y.function(2, 0, 1, -1);
+        int both = y.call(0, y.make(0, 0, 0, 0), 4, 0);
+        clauseOf("promise 8: a variable in another place of a call", 2, y, 0, 4, 1, 0, both);
     }
 
+    /** "in every clause": also in one that never counts, and deep inside of the body. */
+    private static void typedEverywhere() {
+        SureFunctions x = typed();
+        x.function(0, 0, -1, -1);
+        x.clause(0, 3, 0, 0, 0);
+        x.clause(0, 3, 0, 0, 3);
+        clauseOf("promise 8: a clause that never counts", 2, x, 0, 3, 0, 0, 1);
+        SureFunctions y = Programs.numbers();
+        y.constructor(1, -1, -1, -1);
+        y.function(0, -1, -1, -1);
+        int other = y.make(2, 0, 0, 0);
+        int deep = Programs.wrapped(y, other, 5);
+        clauseOf("promise 8: another type five parts deep", 2, y, 0, 0, 0, 0, deep);
+    }
+
+    /** "(without arguments the one row of none)" */
     private static void coveredWithoutArguments() {
-        SureFunctions x = numbers();
-        x.function(0, -1, 0, 0);
-        checks.due("promise 8: the row of none has no clause", 3, x::check);
-        x.clause(0, 0, 0, 0, x.make(0, 0, 0, 0));
-        checks.due("promise 8: the row of none has one", 0, x::check);
+        Edge edge = new Edge(checks, () -> {
+            SureFunctions x = Programs.numbers();
+            x.function(0, -1, -1, -1);
+            x.make(0, 0, 0, 0);
+            return x;
+        });
+        edge.allowed("promise 8: the row of none has no clause", 3, SureFunctions::check);
+        edge.allowed("promise 8: the row of none has one", 0, x -> {
+            x.clause(0, 0, 0, 0, 0);
+            return x.check();
+        });
     }
 
+    /** A clause for each constructor in each place, and one of them left out. */
+    private static void coveredByEachConstructor() {
+        for (int place = 0; place < 3; place++) {
+            for (int left = 0; left <= 3; left++) {
+                SureFunctions x = new SureFunctions();
+                for (int c = 0; c < 3; c++) {
+                    x.constructor(0, -1, -1, -1);
+                }
+                x.function(0, 0, 0, 0);
+                x.variable(0);
+                x.variable(1);
+                x.variable(2);
+                for (int c = 0; c < 3; c++) {
+                    int[] p = {0, 1, 2};
+                    p[place] = x.make(c, 0, 0, 0);
+                    if (c != left) {
+                        x.clause(0, p[0], p[1], p[2], p[place]);
+                    }
+                }
+                checks.due("promise 8: constructor " + left + " left out, place " + place, left < 3 ? 3 : 0, x::check);
+            }
+        }
+    }
+
+    /** "every row of values of the arguments' types matches some clause": each row but one is not enough. */
+    private static void coveredRowByRow() {
+        for (int left = -1; left < 4; left++) {
+            SureFunctions x = Programs.numbers();
+            x.function(0, 0, 0, -1);
+            int zero = x.make(0, 0, 0, 0);
+            int[] first = {zero, x.make(1, x.variable(0), 0, 0)};
+            int[] second = {zero, x.make(1, x.variable(1), 0, 0)};
+            for (int row = 0; row < 4; row++) {
+                if (row != left) {
+                    x.clause(0, first[row / 2], second[row % 2], 0, zero);
+                }
+            }
+            checks.due("promise 8: row " + left + " left out", left < 0 ? 0 : 3, x::check);
+            x.clause(0, x.variable(2), x.variable(3), 0, zero);
+            checks.due("promise 8: row " + left + " left to variables", 0, x::check);
+        }
+    }
+
+    /** Patterns may look at the parts: zero, one and what is more than one. */
+    private static void coveredInside() {
+        SureFunctions x = Programs.numbers();
+        x.function(0, 0, -1, -1);
+        int zero = x.make(0, 0, 0, 0);
+        int one = x.make(1, zero, 0, 0);
+        int more = Programs.wrapped(x, x.variable(0), 2);
+        x.clause(0, one, 0, 0, zero);
+        checks.due("promise 8: one is covered", 3, x::check);
+        x.clause(0, zero, 0, 0, zero);
+        checks.due("promise 8: zero and one are covered", 3, x::check);
+        x.clause(0, more, 0, 0, zero);
+        checks.due("promise 8: zero, one and more are covered", 0, x::check);
+        SureFunctions y = Programs.numbers();
+        y.function(0, 0, -1, -1);
+        zero = y.make(0, 0, 0, 0);
+        y.clause(0, zero, 0, 0, zero);
+        y.clause(0, Programs.wrapped(y, y.variable(0), 2), 0, 0, zero);
+        checks.due("promise 8: one is left out", 3, y::check);
+    }
+
+    /** Where there is one constructor alone, a pattern that names it leaves nothing out. */
+    private static void coveredByTheOnlyConstructor() {
+        SureFunctions x = Programs.numbers();
+        x.constructor(1, 0, 0, -1);
+        x.function(0, 1, -1, -1);
+        int v = x.variable(0);
+        x.clause(0, x.make(2, v, x.variable(1), 0), 0, 0, v);
+        checks.due("promise 8: the only constructor", 0, x::check);
+        x.constructor(1, -1, -1, -1);
+        checks.due("promise 8: no longer the only one", 3, x::check);
+    }
+
+    /** "for each function" */
+    private static void coveredForEachFunction() {
+        for (int left = 0; left <= 6; left++) {
+            SureFunctions x = Programs.numbers();
+            int v = x.variable(0);
+            for (int f = 0; f < 6; f++) {
+                x.function(0, 0, -1, -1);
+                if (f != left) {
+                    x.clause(f, v, 0, 0, v);
+                }
+            }
+            checks.due("promise 8: function " + left + " has no clause", left < 6 ? 3 : 0, x::check);
+        }
+    }
+
+    /** Eight constructors, and six clauses: five constructors and all others. */
+    private static void coveredByEight() {
+        SureFunctions x = new SureFunctions();
+        for (int c = 0; c < 8; c++) {
+            x.constructor(0, -1, -1, -1);
+            x.make(c, 0, 0, 0);
+        }
+        x.function(0, 0, -1, -1);
+        for (int c = 3; c < 8; c++) {
+            x.clause(0, c, 0, 0, 0);
+        }
+        checks.due("promise 8: five of eight", 3, x::check);
+        x.clause(0, x.variable(0), 0, 0, 0);
+        checks.due("promise 8: five of eight, and the others", 0, x::check);
+    }
+
+    /** Three arguments with three parts of two constructors: the clauses miss one row of all these parts, or none. */
+    private static void coveredInTwelvePlaces() {
+        for (int place = 0; place < 3; place++) {
+            SureFunctions x = new SureFunctions();
+            x.constructor(0, -1, -1, -1);
+            x.constructor(0, -1, -1, -1);
+            x.constructor(1, 0, 0, 0);
+            x.function(0, 1, 1, 1);
+            int[] v = new int[8];
+            for (int i = 0; i < 8; i++) {
+                v[i] = x.variable(i);
+            }
+            int no = x.make(0, 0, 0, 0);
+            int yes = x.make(1, 0, 0, 0);
+            int anyNo = x.make(2, v[0], v[1], no);
+            int noAny = x.make(2, no, v[0], v[1]);
+            int anyNoAny = x.make(2, v[0], no, v[1]);
+            int allYes = x.make(2, yes, yes, yes);
+            x.clause(0, anyNo, v[3], v[4], no);
+            x.clause(0, v[3], noAny, v[4], no);
+            x.clause(0, v[3], v[4], anyNoAny, no);
+            x.clause(0, x.make(2, v[0], v[1], yes), x.make(2, yes, v[2], v[3]), x.make(2, v[4], yes, no), no);
+            x.clause(0, x.make(2, v[0], v[1], yes), x.make(2, yes, v[2], v[3]), x.make(2, no, yes, v[4]), no);
+            checks.due("promise 8: what is yes in all that is asked is left", 3, x::check);
+            int[] p = {v[3], v[4], v[5]};
+            p[place] = place == 2 ? x.make(2, yes, v[0], yes) : place == 1 ? x.make(2, yes, v[0], v[1]) : allYes;
+            x.clause(0, p[0], p[1], p[2], yes);
+            checks.due("promise 8: and covered by place " + place, place == 0 ? 3 : 0, x::check);
+        }
+    }
+
+    /** "the first that isn't so is what is wrong" */
     private static void firstWrong() {
-        SureFunctions x = numbers();
-        x.function(0, 0, -1, 0);
-        x.constructor(1, 1, -1, 0);
+        SureFunctions x = Programs.numbers();
+        x.function(0, 0, -1, -1);
+        x.constructor(1, 1, -1, -1);
         int v = x.variable(0);
         x.clause(0, x.make(2, v, 0, 0), 0, 0, x.call(0, v, 0, 0));
-        checks.due("promise 8: all is wrong, types first", 1, x::check);
-        x.constructor(1, -1, 0, 0);
-        checks.due("promise 8: all but types", 2, x::check);
-        SureFunctions y = numbers();
-        y.function(0, 0, -1, 0);
+        checks.due("promise 8: all four are wrong", 1, x::check);
+        x.constructor(1, -1, -1, -1);
+        checks.due("promise 8: the last three are wrong", 2, x::check);
+        SureFunctions y = Programs.numbers();
+        y.function(0, 0, -1, -1);
         int w = y.variable(0);
         int next = y.make(1, w, 0, 0);
         y.clause(0, next, 0, 0, y.call(0, next, 0, 0));
-        checks.due("promise 8: neither covered nor ending", 3, y::check);
+        checks.due("promise 8: the last two are wrong", 3, y::check);
         y.clause(0, w, 0, 0, w);
-        checks.due("promise 8: not ending", 4, y::check);
-        checks.due("promise 9: it came to the graphs", 1, y::graphs);
+        checks.due("promise 8: the last is wrong", 4, y::check);
         checks.due("promise 14: checked and wrong", 0, () -> y.count(5));
-        checks.state("promise 12: checked and wrong", () -> y.run(0, w, 0, 0));
-    }
-
-    private static void uncheckedAgain() {
-        SureFunctions x = numbers();
-        x.function(0, 0, -1, 0);
-        int v = x.variable(0);
-        int zero = x.make(0, 0, 0, 0);
-        int next = x.make(1, v, 0, 0);
-        x.clause(0, zero, 0, 0, zero);
-        x.clause(0, next, 0, 0, x.call(0, v, 0, 0));
-        checks.due("promise 14: not checked yet", 0, () -> x.count(5));
-        checks.due("promise 9: not checked yet", 0, x::graphs);
-        checks.due("promise 8: all is so", 0, x::check);
-        checks.due("promise 8: and again", 0, x::check);
-        checks.due("promise 14: checked", 1, () -> x.count(5));
-        checks.due("promise 9: one graph", 1, x::graphs);
-        x.constructor(0, -1, 0, 0);
-        checks.due("a constructor makes it unchecked", 0, () -> x.count(5));
-        checks.due("promise 9: by the latest check", 1, x::graphs);
-        checks.due("promise 8: not covered now", 3, x::check);
-        checks.due("promise 9: not reached now", 0, x::graphs);
-        x.clause(0, v, 0, 0, v);
-        checks.due("promise 8: covered again", 0, x::check);
-        x.function(1, -1, 0, 0);
-        checks.due("a function makes it unchecked", 0, () -> x.count(5));
-        checks.due("promise 8: another type without a value", 1, x::check);
-        SureFunctions y = numbers();
-        y.function(0, 0, -1, 0);
-        int w = y.variable(0);
-        y.clause(0, w, 0, 0, w);
-        y.check();
-        y.clause(0, w, 0, 0, w);
-        checks.due("a clause makes it unchecked", 0, () -> y.count(5));
-        checks.state("promise 12: unchecked", () -> y.run(0, y.make(0, 0, 0, 0), 0, 0));
-    }
-
-    private static void ending() {
-        SureFunctions x = numbers();
-        x.function(0, 0, -1, 0);
-        int v = x.variable(0);
-        x.clause(0, v, 0, 0, x.call(0, v, 0, 0));
-        checks.due("promise 8: the same for ever", 4, x::check);
-        SureFunctions y = numbers();
-        y.function(0, -1, 0, 0);
-        y.clause(0, 0, 0, 0, y.call(0, 0, 0, 0));
-        checks.due("promise 8: a call of itself without arguments", 4, y::check);
-        checks.due("promise 9: a graph without arcs", 1, y::graphs);
-    }
-
-    /** f(S x, y) = f(x, S y) and f(x, S y) = f(S x, y): each gets smaller in one place, both together in none. */
-    private static void strictOnlyTogether() {
-        SureFunctions x = numbers();
-        x.function(0, 0, 0, -1);
-        int v = x.variable(0);
-        int w = x.variable(1);
-        int nextV = x.make(1, v, 0, 0);
-        int nextW = x.make(1, w, 0, 0);
-        x.clause(0, nextV, w, 0, x.call(0, v, nextW, 0));
-        x.clause(0, v, w, 0, v);
-        checks.due("promise 8: one place gets smaller", 0, x::check);
-        x.clause(0, v, nextW, 0, x.call(0, nextV, w, 0));
-        checks.due("promise 8: no place gets smaller in both", 4, x::check);
-        checks.due("promise 9: two of calls and the one without arcs", 3, x::graphs);
-    }
-
-    /** f(S x, y) = f(y, x): not smaller in the same place at once, but in two calls. */
-    private static void exchanged() {
-        SureFunctions x = numbers();
-        x.function(0, 0, 0, -1);
-        int v = x.variable(0);
-        int w = x.variable(1);
-        x.clause(0, x.make(1, v, 0, 0), w, 0, x.call(0, w, v, 0));
-        x.clause(0, v, w, 0, v);
-        checks.due("promise 8: exchanged", 0, x::check);
-        checks.due("promise 9: exchanged once, twice, and all strict", 3, x::graphs);
-        checks.due("promise 10: strict to the other place", 2, () -> x.arc(0, 0, 0, 1));
-        checks.due("promise 10: weak to the other place", 1, () -> x.arc(0, 0, 1, 0));
-        checks.due("promise 10: none to the same", 0, () -> x.arc(0, 0, 0, 0));
-    }
-
-    private static void mutual() {
-        SureFunctions x = numbers();
-        x.function(0, 0, -1, 0);
-        x.function(0, 0, -1, 0);
-        int v = x.variable(0);
-        int next = x.make(1, v, 0, 0);
-        x.clause(0, v, 0, 0, x.call(1, v, 0, 0));
-        x.clause(1, next, 0, 0, x.call(0, next, 0, 0));
-        x.clause(1, v, 0, 0, v);
-        checks.due("promise 8: two that call each other with the same", 4, x::check);
-        checks.due("promise 9: four weak graphs", 4, x::graphs);
-    }
-
-    private static void arcs() {
-        SureFunctions x = new SureFunctions();
-        x.constructor(0, -1, 0, 0);
-        x.constructor(0, 0, 0, -1);
-        x.function(0, 0, 0, -1);
-        x.function(0, 0, -1, 0);
-        x.function(0, -1, 0, 0);
-        int v = x.variable(0);
-        int w = x.variable(1);
-        int u = x.variable(2);
-        int vw = x.make(1, v, w, 0);
-        int deep = x.make(1, vw, x.make(0, 0, 0, 0), 0);
-        int sameAgain = x.make(1, x.make(1, x.variable(0), x.variable(1), 0), x.make(0, 0, 0, 0), 0);
-        int inner = x.call(1, v, 0, 0);
-        int outer = x.call(0, inner, sameAgain, 0);
-        int body = x.make(1, x.call(0, u, vw, 0), x.make(1, outer, x.call(2, 0, 0, 0), 0), 0);
-        checks.due("promise 7: the clause", 1, () -> x.clause(0, deep, u, 0, body));
-        checks.due("promise 10: a part's part's variable is no whole", 0, () -> x.arc(0, 0, 0, 0));
-        checks.due("promise 10: the same", 1, () -> x.arc(0, 0, 1, 0));
-        checks.due("promise 10: a part", 2, () -> x.arc(0, 0, 0, 1));
-        checks.due("promise 10: not a part", 0, () -> x.arc(0, 0, 1, 1));
-        checks.due("promise 10: a call inside is no part", 0, () -> x.arc(0, 1, 0, 0));
-        checks.due("promise 10: the same in structure", 1, () -> x.arc(0, 1, 0, 1));
-        checks.due("promise 10: a call behind the one that it is inside of", 2, () -> x.arc(0, 2, 0, 0));
-        checks.argument("promise 10: argument 1 of a function with one", () -> x.arc(0, 2, 0, 1));
-        checks.argument("promise 10: argument 0 of a function with none", () -> x.arc(0, 3, 0, 0));
-        checks.argument("promise 10: call 4", () -> x.arc(0, 4, 0, 0));
-        checks.argument("promise 10: call -1", () -> x.arc(0, -1, 0, 0));
-        checks.argument("promise 10: clause 1", () -> x.arc(1, 0, 0, 0));
-        checks.argument("promise 10: clause -1", () -> x.arc(-1, 0, 0, 0));
-        checks.argument("promise 10: from argument 2", () -> x.arc(0, 0, 2, 0));
-        checks.argument("promise 10: from argument -1", () -> x.arc(0, 0, -1, 0));
-        checks.argument("promise 10: to argument 2", () -> x.arc(0, 0, 0, 2));
-        checks.argument("promise 10: to argument -1", () -> x.arc(0, 0, 0, -1));
-    }
-
-    /** Constants have arcs, too, and one place may have several; TYPED or not. */
-    private static void arcsOfConstants() {
-        SureFunctions x = numbers();
-        x.function(1, 2, 2, 2);
-        int zero = x.make(0, 0, 0, 0);
-        int one = x.make(1, zero, 0, 0);
-        int again = x.make(0, 0, 0, 0);
-        x.clause(0, zero, one, x.variable(5), x.call(0, again, again, one));
-        checks.due("promise 10: the same constant", 1, () -> x.arc(0, 0, 0, 1));
-        checks.due("promise 10: a constant inside", 2, () -> x.arc(0, 0, 1, 1));
-        checks.due("promise 10: a constant and its part", 0, () -> x.arc(0, 0, 0, 2));
-        checks.due("promise 10: a greater constant", 1, () -> x.arc(0, 0, 1, 2));
-        checks.due("promise 10: a constant is no variable", 0, () -> x.arc(0, 0, 2, 0));
-    }
-
-    /** Four functions call a fifth in 22 clauses with nine calls each and one with a few, all different. */
-    private static void graphLimit(int few, int graphs, int verdict) {
-        SureFunctions x = new SureFunctions();
-        x.constructor(0, -1, 0, 0);
-        x.constructor(0, 0, 0, 0);
-        x.constructor(1, 0, -1, 0);
-        for (int f = 0; f < 4; f++) {
-            x.function(0, 1, 1, 1);
-        }
-        x.function(0, 0, 0, 0);
-        int[] leaf = {x.variable(0), x.variable(1), x.variable(2), x.make(0, 0, 0, 0)};
-        int[] box = new int[3];
-        for (int i = 0; i < 3; i++) {
-            box[i] = x.make(2, leaf[i], 0, 0);
-        }
-        int[] call = new int[54];
-        for (int i = 0; i < 54; i++) {
-            call[i] = x.call(4, leaf[i % 4], leaf[i / 4 % 4], leaf[i / 16]);
-        }
-        int[] body = new int[6];
-        for (int i = 0; i < 6; i++) {
-            int[] third = new int[3];
-            for (int j = 0; j < 3; j++) {
-                int at = 9 * i + 3 * j;
-                third[j] = x.make(1, call[at], call[at + 1], call[at + 2]);
-            }
-            body[i] = x.make(1, third[0], third[1], third[2]);
-        }
-        for (int clause = 0; clause < 22; clause++) {
-            x.clause(clause / 6, box[0], box[1], box[2], body[clause % 6]);
-        }
-        x.clause(3, box[0], box[1], box[2], x.make(1, call[51], call[52], few == 3 ? call[53] : leaf[3]));
-        x.clause(4, leaf[0], leaf[1], leaf[2], leaf[0]);
-        checks.due("promise 8: " + graphs + " graphs", verdict, x::check);
-        checks.due("promise 9: " + graphs + " graphs", graphs, x::graphs);
     }
 }

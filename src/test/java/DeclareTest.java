@@ -1,244 +1,219 @@
-/** Promises 1 to 7: a new object, constructors, functions, terms and clauses. */
+/** Promises 1 to 3, sentence by sentence: a new object, constructors, and functions likewise. */
 public final class DeclareTest {
     private static final Checks checks = new Checks();
 
+    private interface Declaring {
+        int on(SureFunctions x, int type, int a, int b, int c);
+    }
+
+    private final String promise;
+    private final Declaring declaring;
+    private final int counted;
+    private final int most;
+
+    private DeclareTest(String promise, Declaring declaring, int counted, int most) {
+        this.promise = promise;
+        this.declaring = declaring;
+        this.counted = counted;
+        this.most = most;
+    }
+
     public static void main(String[] args) {
-        newObject();
-        constructors();
-        functions();
-        variables();
-        madeTerms();
-        heightAndSize();
-        calls();
-        clauses();
-        patterns();
-        clauseLimits();
-        throwingChangesNothing();
+        nothingIsDeclared();
+        nothingWasChecked();
+        nothingWasRun();
+        objectsAreApart();
+        new DeclareTest("promise 2: constructor", SureFunctions::constructor, 1, 8).all();
+        new DeclareTest("promise 3: function", SureFunctions::function, 2, 6).all();
+        partsAreOfTheirTypes();
+        argumentsAreOfTheirTypes();
         checks.end();
     }
 
-    private static void newObject() {
+    /** "Nothing is declared" */
+    private static void nothingIsDeclared() {
         SureFunctions x = new SureFunctions();
-        for (int what = 0; what <= 5; what++) {
-            int w = what;
-            checks.due("promise 1: count(" + w + ") of a new object", 0, () -> x.count(w));
+        for (int n = 1; n <= 4; n++) {
+            int what = n;
+            checks.due("promise 1: count(" + n + ")", 0, () -> x.count(what));
         }
-        checks.due("promise 1: graphs()", 0, x::graphs);
-        checks.index("promise 1: answer(0)", () -> x.answer(0));
-        checks.state("promise 1: run without a check", () -> x.run(0, 0, 0, 0));
-        checks.argument("promise 1: arc without clauses", () -> x.arc(0, 0, 0, 0));
-        checks.due("promise 1: isValue without terms", x.isValue(0, 0), false);
+        checks.argument("promise 1: no constructor", () -> x.make(0, 0, 0, 0));
+        checks.argument("promise 1: no function to call", () -> x.call(0, 0, 0, 0));
+        checks.argument("promise 1: no function for a clause", () -> x.clause(0, 0, 0, 0, 0));
+        checks.argument("promise 1: no clause", () -> x.arc(0, 0, 0, 0));
+        checks.due("promise 1: no term", x.isValue(0, 0), false);
+        checks.due("promise 1: the first term", 0, () -> x.variable(0));
     }
 
-    private static void constructors() {
+    /** "no program was checked" */
+    private static void nothingWasChecked() {
         SureFunctions x = new SureFunctions();
-        checks.argument("promise 2: type -1", () -> x.constructor(-1, -1, 0, 0));
-        checks.argument("promise 2: type 3", () -> x.constructor(3, -1, 0, 0));
-        checks.argument("promise 2: first part 3", () -> x.constructor(0, 3, -1, -1));
-        checks.argument("promise 2: first part -2", () -> x.constructor(0, -2, -1, -1));
-        checks.argument("promise 2: second part 3", () -> x.constructor(0, 0, 3, -1));
-        checks.argument("promise 2: third part -2", () -> x.constructor(0, 0, 0, -2));
-        checks.argument("promise 2: great numbers", () -> x.constructor(Integer.MAX_VALUE, 0, 0, 0));
-        checks.due("promise 2: none after the throws", 0, () -> x.count(1));
-        checks.due("promise 2: behind a first -1", 0, () -> x.constructor(0, -1, 77, -77));
-        checks.due("promise 2: behind a second -1", 1, () -> x.constructor(1, 0, -1, -77));
-        checks.due("promise 2: two parts", 2, () -> x.constructor(2, 0, 1, -1));
-        checks.due("promise 2: three parts", 3, () -> x.constructor(2, 0, 1, 2));
-        for (int i = 4; i < 8; i++) {
-            checks.due("promise 2: constructor " + i, i, () -> x.constructor(0, -1, 0, 0));
-        }
-        checks.state("promise 2: a ninth", () -> x.constructor(0, -1, 0, 0));
-        checks.argument("promise 2: a ninth of no type", () -> x.constructor(0, 3, 0, 0));
-        checks.due("promise 2: eight", 8, () -> x.count(1));
+        checks.due("promise 1: not checked", 0, () -> x.count(5));
+        checks.due("promise 1: no graphs", 0, x::graphs);
+        checks.state("promise 1: no run before a check", () -> x.run(0, 0, 0, 0));
+        checks.due("promise 8: nothing declared is all so", 0, x::check);
+        checks.due("promise 14: nothing declared, and checked", 1, () -> x.count(5));
+        checks.due("promise 9: nothing declared has no graphs", 0, x::graphs);
+        checks.argument("promise 12: nothing declared has no function", () -> x.run(0, 0, 0, 0));
     }
 
-    private static void functions() {
-        SureFunctions x = new SureFunctions();
-        checks.argument("promise 3: type -1", () -> x.function(-1, 0, 0, 0));
-        checks.argument("promise 3: argument 3", () -> x.function(0, 0, 0, 3));
-        checks.argument("promise 3: argument -2", () -> x.function(0, -2, 0, 0));
-        checks.due("promise 3: behind -1", 0, () -> x.function(2, -1, 9, 9));
-        for (int i = 1; i < 6; i++) {
-            checks.due("promise 3: function " + i, i, () -> x.function(0, 1, 2, 0));
-        }
-        checks.state("promise 3: a seventh", () -> x.function(0, -1, 0, 0));
-        checks.argument("promise 3: a seventh of no type", () -> x.function(5, -1, 0, 0));
-        checks.due("promise 3: six", 6, () -> x.count(2));
+    /** "nothing was run" */
+    private static void nothingWasRun() {
+        Edge edge = new Edge(checks, SureFunctions::new);
+        edge.allowed("promise 1: no steps", 0, x -> x.count(0));
+        edge.index("promise 1: no answer", x -> x.answer(0));
     }
 
-    private static void variables() {
-        SureFunctions x = new SureFunctions();
-        checks.argument("promise 4: -1", () -> x.variable(-1));
-        checks.argument("promise 4: 8", () -> x.variable(8));
-        checks.due("promise 4: 0", 0, () -> x.variable(0));
-        checks.due("promise 4: 0 again is a new one", 1, () -> x.variable(0));
-        for (int i = 2; i < 100; i++) {
-            int v = i % 8;
-            checks.due("promise 4: term " + i, i, () -> x.variable(v));
-        }
-        checks.state("promise 4: the 101st", () -> x.variable(7));
-        checks.argument("promise 4: no variable, and full", () -> x.variable(8));
-        x.constructor(0, -1, 0, 0);
-        x.function(0, -1, 0, 0);
-        checks.state("promise 5: the 101st", () -> x.make(0, 0, 0, 0));
-        checks.argument("promise 5: no constructor, and full", () -> x.make(1, 0, 0, 0));
-        checks.state("promise 6: the 101st", () -> x.call(0, 0, 0, 0));
-        checks.argument("promise 6: no function, and full", () -> x.call(-1, 0, 0, 0));
-        checks.due("promise 4: a hundred", 100, () -> x.count(3));
-    }
-
-    private static void madeTerms() {
-        SureFunctions x = new SureFunctions();
-        x.constructor(0, -1, 0, 0);
-        x.constructor(0, 0, -1, 0);
-        x.constructor(0, 0, 0, 0);
-        checks.argument("promise 5: constructor -1", () -> x.make(-1, 0, 0, 0));
-        checks.argument("promise 5: constructor 3", () -> x.make(3, 0, 0, 0));
-        checks.argument("promise 5: no part yet", () -> x.make(1, 0, 0, 0));
-        checks.due("promise 5: no parts are looked at", 0, () -> x.make(0, -5, 99, 7));
-        checks.due("promise 5: one part is looked at", 1, () -> x.make(1, 0, -1, 500));
-        checks.argument("promise 5: part -1", () -> x.make(1, -1, 0, 0));
-        checks.argument("promise 5: third part 2", () -> x.make(2, 0, 1, 2));
-        checks.due("promise 5: three parts", 2, () -> x.make(2, 0, 1, 1));
-        checks.due("promise 5: three terms", 3, () -> x.count(3));
-    }
-
-    private static void heightAndSize() {
-        SureFunctions x = new SureFunctions();
-        x.constructor(0, -1, 0, 0);
-        x.constructor(0, 0, -1, 0);
-        x.constructor(0, 0, 0, 0);
-        x.function(0, 0, -1, 0);
-        x.variable(0);
-        for (int height = 1; height <= 6; height++) {
-            int below = height - 1;
-            checks.due("promise 5: height " + height + " over a variable", height, () -> x.make(1, below, 0, 0));
-        }
-        checks.argument("promise 5: height 7", () -> x.make(1, 6, 0, 0));
-        checks.argument("promise 6: height 7", () -> x.call(0, 6, 0, 0));
-        checks.argument("promise 5: the third part too high", () -> x.make(2, 0, 0, 6));
-        checks.due("promise 6: height 6", 7, () -> x.call(0, 5, 0, 0));
-        int leaf = x.make(0, 0, 0, 0);
-        int four = x.make(2, leaf, leaf, leaf);
-        int thirteen = x.make(2, four, four, four);
-        int unaryTwo = x.make(1, leaf, 0, 0);
-        int fourteen = x.make(1, thirteen, 0, 0);
-        int five = x.make(2, leaf, leaf, unaryTwo);
-        checks.due("promise 5: size 40", 14, () -> x.make(2, thirteen, thirteen, thirteen));
-        checks.argument("promise 5: size 41", () -> x.make(2, thirteen, thirteen, fourteen));
-        checks.argument("promise 5: size 41 over 40", () -> x.make(1, 14, 0, 0));
-        checks.argument("promise 6: size 41 over 40", () -> x.call(0, 14, 0, 0));
-        checks.due("promise 5: size 32", 15, () -> x.make(2, thirteen, thirteen, five));
-    }
-
-    private static void calls() {
-        SureFunctions x = new SureFunctions();
-        x.function(0, -1, 0, 0);
-        x.function(0, 1, 2, -1);
-        checks.due("promise 6: no arguments", 0, () -> x.call(0, 9, 9, 9));
-        checks.due("promise 6: two arguments", 1, () -> x.call(1, 0, 0, 9));
-        checks.argument("promise 6: no such argument", () -> x.call(1, 0, 2, 0));
-        checks.argument("promise 6: function 2", () -> x.call(2, 0, 0, 0));
-        checks.argument("promise 6: function -1", () -> x.call(-1, 0, 0, 0));
-    }
-
-    private static void clauses() {
-        SureFunctions x = new SureFunctions();
-        x.constructor(0, -1, 0, 0);
-        x.constructor(0, 0, 0, -1);
-        x.function(0, 0, 0, -1);
-        x.function(0, -1, 0, 0);
+    private static void objectsAreApart() {
+        SureFunctions x = Programs.numbers();
+        SureFunctions y = new SureFunctions();
+        x.function(0, 0, -1, -1);
         int v = x.variable(0);
-        int w = x.variable(1);
-        int zero = x.make(0, 0, 0, 0);
-        int vw = x.make(1, v, w, 0);
-        int vv = x.make(1, v, v, 0);
-        int called = x.call(1, 0, 0, 0);
-        int overCalled = x.make(1, zero, called, 0);
-        checks.argument("promise 7: function -1", () -> x.clause(-1, v, w, 0, v));
-        checks.argument("promise 7: function 2", () -> x.clause(2, v, w, 0, v));
-        checks.argument("promise 7: pattern -1", () -> x.clause(0, -1, w, 0, w));
-        checks.argument("promise 7: pattern 99", () -> x.clause(0, v, 99, 0, v));
-        checks.argument("promise 7: body 99", () -> x.clause(0, v, w, 0, 99));
-        checks.argument("promise 7: body -1", () -> x.clause(0, v, w, 0, -1));
-        checks.argument("promise 7: a variable twice in one", () -> x.clause(0, vv, w, 0, w));
-        checks.argument("promise 7: a variable twice in both", () -> x.clause(0, v, vw, 0, w));
-        checks.argument("promise 7: the same pattern twice", () -> x.clause(0, v, v, 0, v));
-        checks.argument("promise 7: a pattern with a call", () -> x.clause(0, called, v, 0, v));
-        checks.argument("promise 7: a pattern with a call inside", () -> x.clause(0, v, overCalled, 0, v));
-        checks.argument("promise 7: another variable in the body", () -> x.clause(0, v, zero, 0, vw));
-        checks.argument("promise 7: a variable without patterns", () -> x.clause(1, v, v, v, v));
-        checks.due("promise 7: the first", 1, () -> x.clause(0, v, w, 99, vv));
-        checks.due("promise 7: constants twice", 2, () -> x.clause(0, zero, zero, -1, overCalled));
-        checks.due("promise 7: no patterns", 3, () -> x.clause(1, -1, -1, -1, zero));
-        checks.due("promise 7: a body with a variable twice", 4, () -> x.clause(0, vw, zero, 0, vv));
-        checks.due("promise 7: four", 4, () -> x.count(4));
-    }
-
-    private static void patterns() {
-        SureFunctions x = new SureFunctions();
-        x.constructor(0, -1, 0, 0);
-        x.constructor(0, 0, -1, 0);
-        x.constructor(0, 0, 0, 0);
-        x.function(0, 0, -1, 0);
-        int[] v = new int[8];
-        for (int i = 0; i < 8; i++) {
-            v[i] = x.variable(i);
-        }
-        int zero = x.make(0, 0, 0, 0);
-        int one = x.make(1, v[0], 0, 0);
-        int two = x.make(1, one, 0, 0);
-        int three = x.make(1, two, 0, 0);
-        int oneZero = x.make(1, zero, 0, 0);
-        int twoZero = x.make(1, oneZero, 0, 0);
-        int triple = x.make(2, v[0], v[1], v[2]);
-        int single = x.make(1, v[3], 0, 0);
-        int eight = x.make(2, triple, single, v[4]);
-        int nine = x.make(2, triple, single, x.make(1, v[4], 0, 0));
-        checks.due("promise 7: height 2 over a variable", 1, () -> x.clause(0, two, 0, 0, zero));
-        checks.argument("promise 7: height 3 over a variable", () -> x.clause(0, three, 0, 0, zero));
-        checks.due("promise 7: height 2 over a constant", 2, () -> x.clause(0, oneZero, 0, 0, zero));
-        checks.argument("promise 7: height 3 over a constant", () -> x.clause(0, twoZero, 0, 0, zero));
-        checks.due("promise 7: size 8", 3, () -> x.clause(0, eight, 0, 0, zero));
-        checks.argument("promise 7: size 9", () -> x.clause(0, nine, 0, 0, zero));
-    }
-
-    private static void clauseLimits() {
-        SureFunctions x = new SureFunctions();
-        for (int f = 0; f < 6; f++) {
-            x.function(0, 0, -1, 0);
-        }
-        int v = x.variable(3);
-        for (int i = 0; i < 6; i++) {
-            checks.due("promise 7: clause " + i + " of function 2", i + 1, () -> x.clause(2, v, 0, 0, v));
-        }
-        checks.state("promise 7: a seventh of one function", () -> x.clause(2, v, 0, 0, v));
-        checks.argument("promise 7: a seventh with no body", () -> x.clause(2, v, 0, 0, 7));
-        for (int i = 6; i < 24; i++) {
-            int f = new int[] {0, 1, 3, 4}[(i - 6) % 4];
-            int want = i + 1;
-            checks.due("promise 7: clause " + i, want, () -> x.clause(f, v, 0, 0, v));
-        }
-        checks.state("promise 7: a 25th", () -> x.clause(5, v, 0, 0, v));
-        checks.argument("promise 7: a 25th of no function", () -> x.clause(6, v, 0, 0, v));
-        checks.due("promise 7: 24", 24, () -> x.count(4));
-    }
-
-    private static void throwingChangesNothing() {
-        SureFunctions x = new SureFunctions();
-        x.constructor(0, -1, 0, 0);
-        x.function(0, -1, 0, 0);
-        x.clause(0, 0, 0, 0, x.make(0, 0, 0, 0));
+        x.clause(0, v, 0, 0, v);
         x.check();
-        x.run(0, 0, 0, 0);
-        checks.argument("a constructor that throws", () -> x.constructor(9, 0, 0, 0));
-        checks.argument("a function that throws", () -> x.function(9, 0, 0, 0));
-        checks.argument("a clause that throws", () -> x.clause(9, 0, 0, 0, 0));
-        checks.argument("a term that throws", () -> x.make(9, 0, 0, 0));
-        checks.due("still checked", 1, () -> x.count(5));
-        checks.due("still run", 1, () -> x.count(0));
-        checks.due("still one term", 1, () -> x.count(3));
-        checks.due("a term leaves it checked", 1, () -> x.variable(0));
-        checks.due("still checked after a term", 1, () -> x.count(5));
+        x.run(0, x.make(0, 0, 0, 0), 0, 0);
+        for (int n = 0; n <= 5; n++) {
+            int what = n;
+            checks.due("promise 1: count(" + n + ") beside another object", 0, () -> y.count(what));
+        }
+    }
+
+    private void all() {
+        types();
+        typesInEachPlace();
+        behindNone();
+        numbersAndMost();
+        wrongAndFull();
+    }
+
+    /** "TYPES are 0 .. 2"; "IllegalArgumentException when type is not 0 .. 2" */
+    private void types() {
+        Edge edge = new Edge(checks, SureFunctions::new);
+        for (int n = 0; n <= 2; n++) {
+            int type = n;
+            edge.allowed(promise + " of type " + n, 0, x -> declaring.on(x, type, -1, -1, -1));
+        }
+        edge.argument(promise + " of type -1", x -> declaring.on(x, -1, -1, -1, -1));
+        edge.argument(promise + " of type 3", x -> declaring.on(x, 3, -1, -1, -1));
+        for (int type : Programs.FAR) {
+            edge.argument(promise + " of a far type", x -> declaring.on(x, type, -1, -1, -1));
+        }
+    }
+
+    /** "or a part's is not -1 .. 2", in each of the "up to three" places. */
+    private void typesInEachPlace() {
+        Edge edge = new Edge(checks, SureFunctions::new);
+        for (int place = 0; place < 3; place++) {
+            for (int type = -1; type <= 2; type++) {
+                int[] p = placed(place, type);
+                edge.allowed(promise + " with " + type + " in place " + place, 0,
+                        x -> declaring.on(x, 0, p[0], p[1], p[2]));
+            }
+            for (int type : new int[] {-2, 3, Programs.FAR[0], Programs.FAR[1]}) {
+                int[] p = placed(place, type);
+                edge.argument(promise + " with " + type + " in place " + place,
+                        x -> declaring.on(x, 0, p[0], p[1], p[2]));
+            }
+        }
+    }
+
+    private static int[] placed(int place, int type) {
+        int[] places = {2, 2, 2};
+        places[place] = type;
+        return places;
+    }
+
+    /** "(-1 for none; what is behind a -1 is not looked at)" */
+    private void behindNone() {
+        Edge edge = new Edge(checks, SureFunctions::new);
+        for (int behind : new int[] {-2, 3, Programs.FAR[0], Programs.FAR[1]}) {
+            edge.allowed(promise + " with " + behind + " behind a first -1", 0,
+                    x -> declaring.on(x, 0, -1, behind, behind));
+            edge.allowed(promise + " with " + behind + " behind a second -1", 0,
+                    x -> declaring.on(x, 0, 0, -1, behind));
+            edge.argument(promise + " with " + behind + " before a -1", x -> declaring.on(x, 0, behind, -1, -1));
+        }
+    }
+
+    /** "numbered 0, 1, .., at most eight"; "IllegalStateException when there are eight"; "when there are six" */
+    private void numbersAndMost() {
+        SureFunctions x = new SureFunctions();
+        for (int n = 0; n < most; n++) {
+            int type = n % 3;
+            checks.due(promise + " number " + n, n, () -> declaring.on(x, type, -1, -1, -1));
+        }
+        checks.due(promise + ": so many", most, () -> x.count(counted));
+        Edge last = new Edge(checks, () -> with(most - 1));
+        last.allowed(promise + ": the last", most - 1, y -> declaring.on(y, 0, 0, 0, 0));
+        Edge full = new Edge(checks, () -> with(most));
+        full.state(promise + ": one too many", y -> declaring.on(y, 0, -1, -1, -1));
+        full.state(promise + ": one too many, of three", y -> declaring.on(y, 2, 2, 2, 2));
+    }
+
+    /** "if several exceptions are due that one is thrown which the call names first" */
+    private void wrongAndFull() {
+        Edge full = new Edge(checks, () -> with(most));
+        full.argument(promise + ": full, and type 3", x -> declaring.on(x, 3, -1, -1, -1));
+        full.argument(promise + ": full, and type -1", x -> declaring.on(x, -1, -1, -1, -1));
+        for (int place = 0; place < 3; place++) {
+            int[] p = placed(place, 3);
+            full.argument(promise + ": full, and 3 in place " + place, x -> declaring.on(x, 0, p[0], p[1], p[2]));
+        }
+    }
+
+    private SureFunctions with(int many) {
+        SureFunctions x = new SureFunctions();
+        for (int n = 0; n < many; n++) {
+            declaring.on(x, 0, n % 2 - 1, -1, -1);
+        }
+        return x;
+    }
+
+    /** "each has a type that it makes, and up to three types of PARTS": each type in each place is the one declared. */
+    private static void partsAreOfTheirTypes() {
+        for (int n = 0; n < 27; n++) {
+            SureFunctions x = new SureFunctions();
+            for (int type = 0; type < 3; type++) {
+                x.constructor(type, -1, -1, -1);
+                x.make(type, 0, 0, 0);
+            }
+            int a = n % 3;
+            int b = n / 3 % 3;
+            int c = n / 9;
+            x.constructor(n % 2, a, b, c);
+            int one = x.make(3, a, b, c);
+            checks.due("promise 2: parts " + a + b + c, x.isValue(one, n % 2), true);
+            checks.due("promise 2: another type", x.isValue(one, 1 - n % 2), false);
+            checks.due("promise 2: another first part", x.isValue(x.make(3, (a + 1) % 3, b, c), n % 2), false);
+            checks.due("promise 2: another second part", x.isValue(x.make(3, a, (b + 1) % 3, c), n % 2), false);
+            checks.due("promise 2: another third part", x.isValue(x.make(3, a, b, (c + 1) % 3), n % 2), false);
+        }
+    }
+
+    /** "each with the type of its answer and up to three types of ARGUMENTS" */
+    private static void argumentsAreOfTheirTypes() {
+        for (int n = 0; n < 27; n++) {
+            int a = n % 3;
+            int b = n / 3 % 3;
+            int c = n / 9;
+            int answer = (n + 1) % 3;
+            checks.due("promise 3: arguments " + a + b + c, takes(answer, a, b, c, a, b, c, answer), "0");
+            checks.due("promise 3: another first", takes(answer, a, b, c, (a + 1) % 3, b, c, answer), "2");
+            checks.due("promise 3: another second", takes(answer, a, b, c, a, (b + 1) % 3, c, answer), "2");
+            checks.due("promise 3: another third", takes(answer, a, b, c, a, b, (c + 1) % 3, answer), "2");
+            checks.due("promise 3: another answer", takes(answer, a, b, c, a, b, c, (answer + 1) % 3), "2");
+        }
+    }
+
+    /** What check says when a function of some types has a clause with patterns, and a body, of others. */
+    private static String takes(int type, int a, int b, int c, int p, int q, int r, int body) {
+        SureFunctions x = new SureFunctions();
+        for (int t = 0; t < 3; t++) {
+            x.constructor(t, -1, -1, -1);
+            x.make(t, 0, 0, 0);
+        }
+        x.function(type, a, b, c);
+        x.clause(0, p, q, r, body);
+        return Checks.told(x::check);
     }
 }

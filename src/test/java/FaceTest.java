@@ -38,6 +38,7 @@ public final class FaceTest {
         face();
         members();
         room();
+        lastOfAllCalls();
         checks.end();
     }
 
@@ -98,6 +99,24 @@ public final class FaceTest {
             x.run(0, zero, 0, 0);
         }
         checks.due("room after 500 calls", Integer.toString(fieldsAndElements(x)), Integer.toString(before));
+    }
+
+    /** "An object is used for at most 512 calls after it has been made": the last of them still answers as due. */
+    private static void lastOfAllCalls() {
+        SureFunctions x = new SureFunctions();
+        x.constructor(0, -1, -1, -1);
+        x.function(0, 0, -1, -1);
+        int v = x.variable(0);
+        int zero = x.make(0, 0, 0, 0);
+        x.clause(0, v, 0, 0, v);
+        x.check();
+        for (int call = 7; call <= 512; call++) {
+            if (call % 2 == 0) {
+                checks.due("call " + call, 1, () -> x.run(0, zero, 0, 0));
+            } else {
+                checks.due("call " + call, 0, x::check);
+            }
+        }
     }
 
     private static int fieldsAndElements(Object root) throws IllegalAccessException {

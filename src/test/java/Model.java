@@ -7,8 +7,8 @@ import java.util.Map;
 import java.util.Set;
 
 /**
- * The document written down a second time, as naively as can be: terms are trees, rows of values are counted out, graphs
- * are composed in all pairs until nothing new comes, runs are plain recursion.
+ * The document written down a second time, as naively as can be: terms are trees, rows of values are counted out,
+ * graphs are composed in all pairs until nothing new comes, runs are plain recursion.
  */
 final class Model {
     static final class Head {

@@ -2,11 +2,12 @@ import java.util.ArrayList;
 import java.util.List;
 import java.util.function.IntSupplier;
 
-/** Makes each call on the program and on the model, and tells where they differ. */
+/** Makes each call on the program and on the model, and tells where they differ in the 512 calls that are promised. */
 final class Twin {
     static final int THREW = Integer.MIN_VALUE;
+    private static final int CALLS_MOST = 512;
 
-    final SureFunctions program = new SureFunctions();
+    private final SureFunctions program = new SureFunctions();
     final Model model = new Model();
     private final String name;
     private final Checks checks;
@@ -19,12 +20,12 @@ final class Twin {
     }
 
     private int both(String what, IntSupplier onProgram, IntSupplier onModel) {
-        String got = Checks.told(onProgram);
         String want = Checks.told(onModel);
-        told.add(what + " = " + got);
-        if (!got.equals(want) && !differed) {
-            differed = true;
-            checks.due(name + ": " + told, got, want);
+        if (told.size() < CALLS_MOST && !differed) {
+            String got = Checks.told(onProgram);
+            told.add(what + " = " + got);
+            differed = !got.equals(want);
+            checks.due(differed ? name + ": " + told : name, got, want);
         }
         return want.startsWith("throws") ? THREW : Integer.parseInt(want);
     }
