@@ -19,10 +19,13 @@ public final class CheckTest {
         coveredWithoutArguments();
         coveredByEachConstructor();
         coveredRowByRow();
+        coveredByLookingElsewhere();
         coveredInside();
+        coveredInPartsOfSeveralTypes();
         coveredByTheOnlyConstructor();
         coveredForEachFunction();
         coveredByEight();
+        coveredBySpellingOutAll();
         coveredInTwelvePlaces();
         firstWrong();
         checks.end();
@@ -290,6 +293,25 @@ public final class CheckTest {
         }
     }
 
+    /** What no clause names in one place may be covered by clauses that look at another. */
+    private static void coveredByLookingElsewhere() {
+        int[][] orders = {{0, 1}, {1, 0}};
+        for (int[] order : orders) {
+            SureFunctions x = Programs.numbers();
+            x.function(0, 0, 0, -1);
+            int v = x.variable(0);
+            int w = x.variable(1);
+            int zero = x.make(0, 0, 0, 0);
+            int next = x.make(1, w, 0, 0);
+            int[][] rows = {{zero, w}, {v, zero}, {v, next}};
+            x.clause(0, rows[0][order[0]], rows[0][order[1]], 0, zero);
+            x.clause(0, rows[1][order[0]], rows[1][order[1]], 0, zero);
+            checks.due("promise 8: next and next are left out", 3, x::check);
+            x.clause(0, rows[2][order[0]], rows[2][order[1]], 0, zero);
+            checks.due("promise 8: next is covered by looking elsewhere", 0, x::check);
+        }
+    }
+
     /** Patterns may look at the parts: zero, one and what is more than one. */
     private static void coveredInside() {
         SureFunctions x = Programs.numbers();
@@ -309,6 +331,35 @@ public final class CheckTest {
         y.clause(0, zero, 0, 0, zero);
         y.clause(0, Programs.wrapped(y, y.variable(0), 2), 0, 0, zero);
         checks.due("promise 8: one is left out", 3, y::check);
+    }
+
+    /** Each part's constructors are those of its own type: type 0 has one of them, type 1 two, type 2 a triple. */
+    private static void coveredInPartsOfSeveralTypes() {
+        int[][] types = {{0, 1, 1}, {1, 0, 1}, {1, 1, 0}, {1, 1, 1}};
+        for (int[] type : types) {
+            for (int left = -1; left < 3; left++) {
+                SureFunctions x = new SureFunctions();
+                x.constructor(0, -1, -1, -1);
+                x.constructor(1, -1, -1, -1);
+                x.constructor(1, -1, -1, -1);
+                x.constructor(2, type[0], type[1], type[2]);
+                x.function(0, 2, -1, -1);
+                int[] of = {x.make(0, 0, 0, 0), x.make(1, 0, 0, 0)};
+                int other = x.make(2, 0, 0, 0);
+                int[] v = {x.variable(0), x.variable(1), x.variable(2)};
+                x.clause(0, x.make(3, of[type[0]], of[type[1]], of[type[2]]), 0, 0, of[0]);
+                boolean all = true;
+                for (int place = 0; place < 3; place++) {
+                    if (type[place] == 1 && place != left) {
+                        int[] p = v.clone();
+                        p[place] = other;
+                        x.clause(0, x.make(3, p[0], p[1], p[2]), 0, 0, of[0]);
+                    }
+                    all &= type[place] == 0 || place != left;
+                }
+                checks.due("promise 8: the other in part " + left + " is left out", all ? 0 : 3, x::check);
+            }
+        }
     }
 
     /** Where there is one constructor alone, a pattern that names it leaves nothing out. */
@@ -352,6 +403,20 @@ public final class CheckTest {
         checks.due("promise 8: five of eight", 3, x::check);
         x.clause(0, x.variable(0), 0, 0, 0);
         checks.due("promise 8: five of eight, and the others", 0, x::check);
+    }
+
+    /** A clause that names the constructors of three arguments and of all their parts, each the only one there is. */
+    private static void coveredBySpellingOutAll() {
+        SureFunctions x = new SureFunctions();
+        x.constructor(0, -1, -1, -1);
+        x.constructor(1, 0, 0, 0);
+        x.function(0, 1, 1, 1);
+        int only = x.make(0, 0, 0, 0);
+        int all = x.make(1, only, only, only);
+        x.clause(0, all, all, all, only);
+        checks.due("promise 8: all that there is, spelled out", 0, x::check);
+        x.constructor(0, -1, -1, -1);
+        checks.due("promise 8: no longer all that there is", 3, x::check);
     }
 
     /** Three arguments with three parts of two constructors: the clauses miss one row of all these parts, or none. */

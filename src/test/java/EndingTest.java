@@ -22,9 +22,11 @@ public final class EndingTest {
         sameGraphs();
         onlyFromAFunctionToItself();
         onlyThoseThatAreTheirOwnComposition();
+        ownCompositionAlsoInWhatIsStrict();
         strictToTheSameArgument();
         strictOnlyTogether();
         clausesThatNeverCount();
+        manyGraphsAgain();
         graphsOfCalls(200, 0);
         graphsOfCalls(201, 4);
         graphsByComposition(200, 0);
@@ -168,6 +170,21 @@ public final class EndingTest {
             edge.argument("promise 10: a far clause", x -> x.arc(clause, 0, 0, 0));
         }
         new Edge(checks, SureFunctions::new).argument("promise 10: no clause", x -> x.arc(0, 0, 0, 0));
+        Edge full = new Edge(checks, EndingTest::twentyFourClauses);
+        full.allowed("promise 10: the last of 24 clauses", 1, x -> x.arc(23, 0, 0, 0));
+        full.argument("promise 10: one behind the last of 24 clauses", x -> x.arc(24, 0, 0, 0));
+    }
+
+    private static SureFunctions twentyFourClauses() {
+        SureFunctions x = Programs.numbers();
+        int v = x.variable(0);
+        for (int clause = 0; clause < 24; clause++) {
+            if (clause % 6 == 0) {
+                x.function(0, 0, -1, -1);
+            }
+            x.clause(clause / 6, v, 0, 0, clause < 23 ? v : x.call(0, v, 0, 0));
+        }
+        return x;
     }
 
     /** "or call" */
@@ -179,6 +196,14 @@ public final class EndingTest {
         for (int k : Programs.FAR) {
             edge.argument("promise 10: a far call", x -> x.arc(0, k, 0, 0));
         }
+        Edge behind = new Edge(checks, () -> {
+            SureFunctions x = threeClauses();
+            x.clause(1, 0, 0, 0, x.call(1, x.call(1, 0, 0, 0), 0, 0));
+            x.arc(3, 1, 0, 0);
+            return x;
+        });
+        behind.argument("promise 10: call 1 of one, behind a clause with more", x -> x.arc(0, 1, 0, 0));
+        behind.argument("promise 10: call 0 of none, behind a clause with more", x -> x.arc(2, 0, 0, 0));
     }
 
     /** A body of 39 calls and a variable in the last of them: as many as can be, if the last is to have an argument. */
@@ -196,6 +221,17 @@ public final class EndingTest {
         edge.allowed("promise 10: the first of 39 calls", 0, x -> x.arc(0, 0, 0, 2));
         edge.allowed("promise 10: the last of 39 calls", 1, x -> x.arc(0, 38, 0, 0));
         edge.argument("promise 10: one behind the last of 39 calls", x -> x.arc(0, 39, 0, 0));
+        Edge forty = new Edge(checks, () -> {
+            SureFunctions x = Programs.allWidths();
+            int one = x.call(0, 0, 0, 0);
+            int four = x.call(3, one, one, one);
+            int thirteen = x.call(3, four, four, four);
+            x.clause(1, x.variable(0), 0, 0, x.call(3, thirteen, thirteen, thirteen));
+            return x;
+        });
+        forty.allowed("promise 10: the last of forty calls that has arguments", 0, x -> x.arc(0, 36, 0, 2));
+        forty.argument("promise 10: the last of forty calls has no argument", x -> x.arc(0, 39, 0, 0));
+        forty.argument("promise 10: one behind the last of forty calls", x -> x.arc(0, 40, 0, 0));
     }
 
     /** "or no such argument of the clause's or the called function" */
@@ -352,6 +388,32 @@ public final class EndingTest {
         verdict("promise 8: exchanged, and none gets smaller", x, 4, 8);
     }
 
+    /**
+     * f(zero, next(b), one) = g(zero, next(b), next(b)), g(a, b, zero) = h(a, b, b) and h(zero, zero, next(c)) =
+     * f(zero, zero, c): all three together have a graph without a strict arc to the same argument, whose composition
+     * with itself has the same arcs, but more of them strict.
+     */
+    private static void ownCompositionAlsoInWhatIsStrict() {
+        SureFunctions x = Programs.numbers();
+        for (int f = 0; f < 3; f++) {
+            x.function(0, 0, 0, 0);
+        }
+        int a = x.variable(0);
+        int b = x.variable(1);
+        int c = x.variable(2);
+        int zero = x.make(0, 0, 0, 0);
+        int one = x.make(1, zero, 0, 0);
+        int nextB = x.make(1, b, 0, 0);
+        int nextC = x.make(1, c, 0, 0);
+        x.clause(0, zero, nextB, one, x.call(1, zero, nextB, nextB));
+        x.clause(1, a, b, zero, x.call(2, a, b, b));
+        x.clause(2, zero, zero, nextC, x.call(0, zero, zero, c));
+        for (int f = 0; f < 3; f++) {
+            x.clause(f, a, b, c, zero);
+        }
+        verdict("promise 8: its own composition but for what is strict", x, 0, 30);
+    }
+
     /** "has a strict arc from some argument to the same one": f(next(a), b) = f(next(a), a) has one to another. */
     private static void strictToTheSameArgument() {
         for (int place = 0; place < 3; place++) {
@@ -396,10 +458,10 @@ public final class EndingTest {
     }
 
     /**
-     * Functions 0 to 3 call function 4 in 22 clauses, with as many different graphs as are asked for, nine to a clause
-     * at most; what function 4 does is left open.
+     * Functions 0 to 3 call function 4 in 22 clauses, with as many calls as are asked for, nine to a clause at most; so
+     * many clauses of a function have graphs that differ, and what function 4 does is left open.
      */
-    private static SureFunctions manyCalls(int many) {
+    private static SureFunctions manyCalls(int many, int differing) {
         SureFunctions x = new SureFunctions();
         x.constructor(0, -1, -1, -1);
         x.constructor(0, 0, 0, 0);
@@ -420,7 +482,7 @@ public final class EndingTest {
         }
         for (int clause = 0; clause < 22; clause++) {
             int here = Math.max(0, Math.min(9, many - 9 * clause));
-            int at = clause % 6;
+            int at = clause % 6 % differing;
             int body = here == 9 ? whole[at] : here == 0 ? leaf[3] : nine(x, call, 9 * at, here, leaf[3]);
             x.clause(clause / 6, box[0], box[1], box[2], body);
         }
@@ -440,9 +502,16 @@ public final class EndingTest {
         return x.make(1, third[0], third[1], third[2]);
     }
 
+    /** Of nine calls in each of 22 clauses those of three clauses differ, for each of four functions. */
+    private static void manyGraphsAgain() {
+        SureFunctions x = manyCalls(198, 3);
+        x.clause(4, 0, 1, 2, 0);
+        verdict("promise 9: 27 graphs from each function, most of them twice", x, 0, 4 * 27);
+    }
+
     /** "When there would be more than 200 graphs, this is wrong, too"; "(201 if there would be more than 200)" */
     private static void graphsOfCalls(int graphs, int want) {
-        SureFunctions x = manyCalls(198);
+        SureFunctions x = manyCalls(198, 6);
         int zero = 3;
         x.function(0, 0, 0, 0);
         int none = x.call(4, zero, zero, zero);
@@ -456,7 +525,7 @@ public final class EndingTest {
 
     /** Function 4 calls 5 without arguments: one graph more, and one from each of four functions by composition. */
     private static void graphsByComposition(int graphs, int want) {
-        SureFunctions x = manyCalls(graphs - 5);
+        SureFunctions x = manyCalls(graphs - 5, 6);
         x.function(0, -1, -1, -1);
         int zero = 3;
         x.clause(4, 0, 1, 2, x.call(5, 0, 0, 0));
@@ -467,7 +536,7 @@ public final class EndingTest {
     }
 
     private static void farTooManyGraphs() {
-        SureFunctions x = manyCalls(198);
+        SureFunctions x = manyCalls(198, 6);
         x.function(0, 0, 0, 0);
         x.clause(4, 0, 1, 2, x.call(5, 2, 0, 1));
         x.clause(5, 0, 1, 2, 0);
