@@ -25,6 +25,7 @@ public final class CheckTest {
         coveredByTheOnlyConstructor();
         coveredForEachFunction();
         coveredByEight();
+        coveredByTheLastOfSix();
         coveredBySpellingOutAll();
         coveredInTwelvePlaces();
         firstWrong();
@@ -403,6 +404,32 @@ public final class CheckTest {
         checks.due("promise 8: five of eight", 3, x::check);
         x.clause(0, x.variable(0), 0, 0, 0);
         checks.due("promise 8: five of eight, and the others", 0, x::check);
+    }
+
+    /** Five clauses look at one part each; what they leave is covered by a sixth that looks at the very last part. */
+    private static void coveredByTheLastOfSix() {
+        SureFunctions x = new SureFunctions();
+        x.constructor(0, -1, -1, -1);
+        x.constructor(0, -1, -1, -1);
+        x.constructor(1, 0, 0, 2);
+        x.constructor(2, -1, -1, -1);
+        x.function(0, 1, 1, 1);
+        int[] v = new int[8];
+        for (int i = 0; i < 8; i++) {
+            v[i] = x.variable(i);
+        }
+        int zero = x.make(0, 0, 0, 0);
+        int only = x.make(3, 0, 0, 0);
+        int first = x.make(2, zero, v[0], v[1]);
+        int second = x.make(2, v[0], zero, v[1]);
+        x.clause(0, first, v[2], v[3], zero);
+        x.clause(0, second, v[2], v[3], zero);
+        x.clause(0, v[2], first, v[3], zero);
+        x.clause(0, v[2], second, v[3], zero);
+        x.clause(0, v[2], v[3], first, zero);
+        checks.due("promise 8: five parts looked at", 3, x::check);
+        x.clause(0, x.make(2, v[0], v[1], v[2]), x.make(2, v[3], v[4], v[5]), x.make(2, v[6], v[7], only), zero);
+        checks.due("promise 8: five parts looked at, and the very last", 0, x::check);
     }
 
     /** A clause that names the constructors of three arguments and of all their parts, each the only one there is. */

@@ -24,6 +24,7 @@ public final class RunTest {
         sixHundredTerms();
         allAtOnce();
         deepRun();
+        deepRunThatHoldsMuch();
         endedRunLeavesNoAnswer();
         checks.end();
     }
@@ -565,6 +566,38 @@ public final class RunTest {
         ran("a run less deep, but too great", 0, 24, x, 0, one, one, one);
         ran("a run that has an answer", 11, 3, x, 5, zero, Programs.wrapped(x, one, 1), zero);
         checks.due("promise 13: a run that has an answer", answerOf(x, 11), "11111111110");
+    }
+
+    /** The same, but each call is the last part of five triples, so that two values wait in each of them. */
+    private static void deepRunThatHoldsMuch() {
+        SureFunctions x = Programs.numbers();
+        x.constructor(0, 0, 0, 0);
+        for (int f = 0; f < 6; f++) {
+            x.function(0, 0, 0, 0);
+        }
+        int a = x.variable(0);
+        int b = x.variable(1);
+        int r = x.variable(2);
+        int zero = x.make(0, 0, 0, 0);
+        int nextA = x.make(1, a, 0, 0);
+        int nextB = x.make(1, b, 0, 0);
+        for (int f = 0; f < 6; f++) {
+            x.clause(f, a, nextB, r, lastOfTriples(x, x.call(f, a, b, r), r));
+            x.clause(f, nextA, zero, r, x.call(f, a, r, r));
+            x.clause(f, zero, zero, r, f < 5 ? x.call(f + 1, r, r, r) : zero);
+            x.clause(f, a, b, r, zero);
+        }
+        int five = Programs.wrapped(x, zero, 5);
+        checks.due("promise 8: it ends", 0, x::check);
+        ran("a deep run that holds much", 0, 200, x, 0, five, five, five);
+    }
+
+    private static int lastOfTriples(SureFunctions x, int term, int other) {
+        int last = term;
+        for (int i = 0; i < 5; i++) {
+            last = x.make(2, other, other, last);
+        }
+        return last;
     }
 
     /** "0 when the run ended without one (there is no latest answer then)" */
